@@ -507,7 +507,8 @@ public final class UpTheFlue {
         if (!in(seed, 0, LAST_SEED) || !in(many, 0, MOST_FIRES) || !in(heatWet, 0, 99)) {
             return NO_NUMBER;
         }
-        return house.firstBurning(seed, from, many, heatWet);
+        house.weighBurning(from, many, heatWet);
+        return house.firstBurning(seed, from, many);
     }
 
     public long odds(int seed, int f, int many, int heatWet, int part) {
@@ -518,14 +519,21 @@ public final class UpTheFlue {
         if (!in(heatWet, 0, 99) || !in(part, 0, 1)) {
             return NO;
         }
-        int nothing = 0;
+        house.weighBurning(from, many, heatWet);
+        int above = 0;
         for (int i = 0; i < SEEDS; i++) {
-            if (house.firstBurning(seed + i, from, many, heatWet) == NONE) {
-                nothing++;
+            if (house.firstBurning(seed + i, from, many) == NONE) {
+                above++;
             }
         }
-        int common = greatestDivisor(nothing, SEEDS);
-        return part == 0 ? nothing / common : SEEDS / common;
+        int below = SEEDS;
+        for (int d = SEEDS; d > 1; d--) {
+            if (above % d == 0 && below % d == 0) {
+                above /= d;
+                below /= d;
+            }
+        }
+        return part == 0 ? above : below;
     }
 
     public int image() {
@@ -658,16 +666,6 @@ public final class UpTheFlue {
         return bit == null ? NONE : bit.number;
     }
 
-    /** Never 0: b is above 0. */
-    private static int greatestDivisor(int a, int b) {
-        for (int d = b; d > 1; d--) {
-            if (a % d == 0 && b % d == 0) {
-                return d;
-            }
-        }
-        return 1;
-    }
-
     /** One of the first so many texts, or null. */
     private Law textAt(int t, int many) {
         return t >= 0 && t < many && t < texts.length ? texts[t] : null;
@@ -700,7 +698,7 @@ public final class UpTheFlue {
             if (asked == BIT || asked == kind) {
                 return true;
             }
-            return asked == SOOTY && kind == TARRED || asked == BLOCKED && kind == LOST;
+            return (asked == SOOTY && kind == TARRED) || (asked == BLOCKED && kind == LOST);
         }
 
         int grows(int adds) {
@@ -747,7 +745,7 @@ public final class UpTheFlue {
 
         Bit firstUpIn(int bits) {
             for (Bit b = this; b != null; b = b.above) {
-                if ((bits & 1 << b.number) != 0) {
+                if ((bits & (1 << b.number)) != 0) {
                     return b;
                 }
             }
@@ -813,6 +811,7 @@ public final class UpTheFlue {
         private final Bit[] bits = new Bit[MOST_BITS];
         private final Bit[] places = new Bit[MOST_IN_ROUND];
         private final Bit[] order = new Bit[MOST_IN_ROUND];
+        private final int[] chances = new int[MOST_FIRES * MOST_BITS];
 
         Bit bitAt(int b) {
             return b >= 0 && b < size && b < bits.length ? bits[b] : null;
@@ -872,7 +871,7 @@ public final class UpTheFlue {
             int found = 0;
             for (int f = 0; f < bits.length; f++) {
                 Bit from = fireplaceAt(f);
-                if (from != null && (from.bitsUp() & 1 << bit.number) != 0) {
+                if (from != null && (from.bitsUp() & (1 << bit.number)) != 0) {
                     found |= 1 << f;
                 }
             }
@@ -980,21 +979,34 @@ public final class UpTheFlue {
             return true;
         }
 
-        int firstBurning(long seed, Bit from, int many, int heatWet) {
-            long lot = seed + 1;
-            int found = NONE;
+        /** Keeps, fire by fire and bit by bit, how likely it burns: it is the same for all seeds. */
+        void weighBurning(Bit from, int many, int heatWet) {
+            int count = 0;
             setSootAside();
-            for (int n = 1; n <= many && found == NONE; n++) {
+            for (int n = 0; n < many; n++) {
                 light(from, heatWet);
-                for (Bit b = from; b != null; b = b.above) {
-                    lot = lot * 48271 % 2147483647;
-                    if (lot % 100 < law.says(BURNS, b, heatWet)) {
-                        found = n;
-                    }
+                for (Bit b = from; b != null && count < chances.length; b = b.above) {
+                    chances[count] = law.says(BURNS, b, heatWet);
+                    count++;
                 }
             }
             putSootBack();
-            return found;
+        }
+
+        /** Of the fires that were weighed last the first by which a lot is below a chance; -1: none. */
+        int firstBurning(long seed, Bit from, int many) {
+            long lot = seed + 1;
+            int count = 0;
+            for (int n = 1; n <= many; n++) {
+                for (Bit b = from; b != null && count < chances.length; b = b.above) {
+                    lot = lot * 48271 % 2147483647;
+                    if (lot % 100 < chances[count]) {
+                        return n;
+                    }
+                    count++;
+                }
+            }
+            return NONE;
         }
 
         /** ORDERS times the least most soot, and the first order that has it; 0 without bits. */
@@ -1039,7 +1051,7 @@ public final class UpTheFlue {
             for (int i = many - 1; i >= 0 && i < order.length && many > 0; i--) {
                 int digit = rest % many;
                 rest /= many;
-                if ((used & 1 << digit) != 0 || digit < 0 || digit >= places.length) {
+                if ((used & (1 << digit)) != 0 || digit < 0 || digit >= places.length) {
                     return false;
                 }
                 used |= 1 << digit;
@@ -1245,26 +1257,23 @@ public final class UpTheFlue {
 
         /** The tape becomes a law, and is empty then: the place of its fault, -1: none. */
         int read(Law law) {
+            law.clear();
             place = 0;
-            boolean good = readParts(law);
+            boolean good = true;
+            for (int part = ADDS; part <= BURNS && good; part++) {
+                next();
+                good = token == Sign.KEY && value == part && readSaying(law);
+                law.endPart(part);
+            }
+            if (good) {
+                next();
+                good = token == Sign.END;
+            }
             size = 0;
             return good ? NONE : start;
         }
 
-        /** Of each part its key, what it says, and the ; behind it; then the end. */
-        private boolean readParts(Law law) {
-            law.clear();
-            for (int part = ADDS; part <= BURNS; part++) {
-                next();
-                if (token != Sign.KEY || value != part || !readSaying(law)) {
-                    return false;
-                }
-                law.endPart(part);
-            }
-            next();
-            return token == Sign.END;
-        }
-
+        /** What a part says, and the ; behind it; false: a fault, at start. */
         private boolean readSaying(Law law) {
             waits = 0;
             open = 0;
