@@ -22,7 +22,7 @@ public final class UpTheFlue {
     private static final String FIRST_TEXT =
             "adds 1 + heat + wet * 2 ; heavy bend * 5 + soot - wide ; burns soot - 50 ;";
 
-    private final House house = new House();
+    private final House house;
     private final Reader reader = new Reader();
     private final Law[] texts = new Law[MOST_TEXTS];
     private final Sheet[] sheets = new Sheet[MOST_SHEETS];
@@ -39,7 +39,7 @@ public final class UpTheFlue {
         }
         reader.write(FIRST_TEXT);
         reader.read(texts[0]);
-        house.law = texts[0];
+        house = new House(texts[0]);
     }
 
     // ---- the law
@@ -812,6 +812,10 @@ public final class UpTheFlue {
         private final Bit[] places = new Bit[MOST_IN_ROUND];
         private final Bit[] order = new Bit[MOST_IN_ROUND];
         private final int[] chances = new int[MOST_FIRES * MOST_BITS];
+
+        House(Law law) {
+            this.law = law;
+        }
 
         Bit bitAt(int b) {
             return b >= 0 && b < size && b < bits.length ? bits[b] : null;

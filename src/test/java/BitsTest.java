@@ -174,6 +174,9 @@ public final class BitsTest {
                 due("flue " + b + " " + what, x.flue(b, what), due[b][what]);
             }
         }
+        UpTheFlue one = new UpTheFlue();
+        one.bit(-1, 0, 11, 0);
+        due("0 alone", one.flue(0, 2), 1);
         due("what 4", x.flue(0, 4), -7);
         due("what -1", x.flue(0, -1), -7);
         for (int b : FAR) {

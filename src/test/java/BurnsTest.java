@@ -41,6 +41,11 @@ public final class BurnsTest {
         due("heat 1, wet 2: .66 * .69", x.fine(1, 1, 12), 455400000L);
         due("it is sure by ten fires", x.fine(1, 10, 0), 0);
         due("soot is as it was", x.told(0, 6) + x.told(1, 6), 0);
+        x.lay(0, 5);
+        x.lay(1, 7);
+        due("on what lies there: .8 * .85", x.fine(1, 1, 0), 680000000L);
+        due("it lies there still", x.told(0, 6), 5);
+        due("there, too", x.told(1, 6), 7);
         // Cut each time: 1000000000, 910000000, 828100000, 753571000, 685749610, 624032145 (.1 cut).
         x = withText("adds 0;heavy 0;burns 9;");
         x.bit(-1, 0, 19, 0);
@@ -74,6 +79,9 @@ public final class BurnsTest {
         due("below .5", x.when(0, 0, 50), 4);
         due("below .01", x.when(0, 0, 99), 8);
         due("soot is as it was", x.told(0, 6), 0);
+        x.lay(0, 51);
+        due("on what lies there: .39", x.when(0, 99, 60), 1);
+        due("it lies there still", x.told(0, 6), 51);
         for (int bad : NO_NUMBER) {
             due("heatWet " + bad, x.when(0, bad, 0), -7);
             due("hundredth " + bad, x.when(0, 0, bad), -7);
@@ -115,6 +123,9 @@ public final class BurnsTest {
         x.lay(1, 30);
         due("what lies there is swept first", x.often(1, 0, 99, 33), 1);
         due("no line that it is above", x.often(1, 0, 99, 32), -1);
+        due("it lies there still", x.told(1, 6), 30);
+        due("heat 9, wet 9: 50, 20 and so on", x.often(1, 99, 99, 51), 1);
+        due("heat 9, wet 9, line 50", x.often(1, 99, 99, 50), -1);
     }
 
     private static void promise24Edges() {
@@ -123,6 +134,7 @@ public final class BurnsTest {
         x.bit(-1, 0, 19, 0);
         x.lay(1, 99);
         due("another flue does not matter", x.often(0, 0, 0, 3), 1);
+        due("line 0 is one", x.often(0, 0, 0, 0), -1);
         x.mend(0, 3, 0);
         // TARRED: 3, swept 1, 4, swept 2, 5, swept 2, 5 and so on.
         due("half is left", x.often(0, 0, 0, 5), 1);
@@ -207,6 +219,14 @@ public final class BurnsTest {
         x.lay(5, 60);
         due("any bit, of no fire too", x.round(0, 50, 1), 60);
         due("by which all are like", x.round(0, 50, 0), 123);
+        x.mend(2, 4, 0);
+        x.lay(2, 99);
+        due("nothing less than 99", x.round(0, 50, 1), 99);
+        due("then all are like", x.round(0, 50, 0), 123);
+        x.lay(2, 94);
+        due("98", x.round(0, 50, 1), 98);
+        due("by the first, too", x.round(0, 50, 0), 123);
+        due("it lies there still", x.told(2, 6) + x.told(3, 6) + x.told(5, 6), 94 + 10 + 60);
         for (int bad : NO_NUMBER) {
             due("heatWet " + bad, x.round(bad, 0, 0), -2);
             due("force " + bad, x.round(0, bad, 0), -2);

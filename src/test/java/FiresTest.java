@@ -150,6 +150,10 @@ public final class FiresTest {
         for (int wind : new int[] {-1, 100, Integer.MIN_VALUE, Integer.MAX_VALUE}) {
             due("wind " + wind, x.smokes(wind), -2);
         }
+        x = new UpTheFlue();
+        x.bit(-1, 0, 19, 0);
+        due("0 alone", x.smokes(6), 1);
+        due("0 alone, by less wind", x.smokes(5), 0);
         due("no bits", new UpTheFlue().smokes(99), 0);
         due("no bits, wind", new UpTheFlue().smokes(100), -2);
     }

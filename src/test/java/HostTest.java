@@ -271,6 +271,9 @@ public final class HostTest {
             due("soot is no BIT " + kind, x.taken(12, kind), -13);
         }
         due("soot changes nothing", x.told(2, 6), 99);
+        x.lay(0, 3);
+        due("soot of 0", x.taken(10, 6), 3);
+        due("that is no BIT", x.taken(10, 0), -13);
         x.mend(2, 3, 1);
         due("TARRED by then", x.taken(2, 1), 2);
         due("no BLOCKED by then", x.taken(2, 2), -13);

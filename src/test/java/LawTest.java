@@ -113,6 +113,15 @@ public final class LawTest {
         due("an empty one", x.text(), -100);
         due("texts", x.count(3), 4);
         due("the law is as it was", x.count(4), 0);
+        x.bit(-1, 0, 11, 0);
+        due("a fault in brackets", Check.text(x, "adds 5 + ((((("), -114);
+        due("the next one knows nothing of it", Check.text(x, "adds (((((7)))));heavy 8;burns 9;"), 4);
+        x.force(4);
+        for (int part = 0; part <= 2; part++) {
+            due("says its own, part " + part, x.asks(part, 0, 0, 0), 7 + part);
+        }
+        due("a 0 behind it", Check.text(x, "adds 1;heavy 2;burns 3;\0"), -123);
+        due("a 0 within", Check.text(x, "adds 1;\0heavy 2;burns 3;"), -107);
     }
 
     /** The text with the fault's place marked by ^. */
@@ -132,7 +141,7 @@ public final class LawTest {
             "adds 1;^", "adds 1 ; ^adds 1;", "adds 1 ; ^burns 1;", "adds 1;heavy 2;^", "adds 1;heavy 2;burns 3^",
             "adds 1;heavy 2;burns 3;^;", "adds 1;heavy 2;burns 3; ^adds", "adds 1;heavy 2;burns 3;^A",
             "adds ^;", "adds ^)", "adds ^+1;", "adds ^*1;", "adds ^<1;", "adds ^or 1;", "adds ^and 1;", "adds ^adds;", "adds ^Soot;",
-            "adds ^oot;", "adds ^soots;", "adds ^sootwide;", "adds soot ^wide;", "adds soot^5;", "adds 5^soot;", "adds 12 ^34;",
+            "adds ^oot;", "adds ^soots;", "adds ^sootz;", "adds (^foo", "adds -^foo", "adds not ^foo", "adds 1 + ^foo", "adds ^sootwide;", "adds soot ^wide;", "adds soot^5;", "adds 5^soot;", "adds 12 ^34;",
             "adds ^12345;", "adds ^00001;", "adds 1234 + ^99999;", "adds 1 ^12345;", "adds 1^(2);", "adds (1)^2;", "adds (1)^(2);",
             "adds (^)", "adds (1^;", "adds (1 + 2^;", "adds 1^);", "adds (1)^);", "adds ((1)^;", "adds (1^", "adds (^",
             "adds 1 + ^;", "adds 1 - ^;", "adds 1 * ^;", "adds 1 < ^;", "adds 1 or ^;", "adds 1 and ^;", "adds not ^;", "adds - ^;",
@@ -315,6 +324,9 @@ public final class LawTest {
         says("5 or 0", 1);
         says("0 or - 5", 1);
         says("0 or 0", 0);
+        says("5 + (0 or 0)", 5);
+        says("5 + (0 and 7)", 5);
+        says("5 + (2 < 1) + (2 = 1) + (not 3)", 5);
         says("1 or 0 and 0", 1);
         says("(1 or 0) and 0", 0);
         says("0 and 0 or 1", 1);

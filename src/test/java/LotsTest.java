@@ -8,6 +8,7 @@ public final class LotsTest {
     public static void main(String[] args) {
         promise32();
         promise32Flue();
+        promise32Long();
         promise32Edges();
         promise33();
         promise33Edges();
@@ -85,6 +86,28 @@ public final class LotsTest {
         due("71 is below 72", x.drawn(0, 1, 1, 0), 1);
     }
 
+    /** The last fire of 40 in a flue of ten: the lots 391 to 400. */
+    private static void promise32Long() {
+        UpTheFlue x = withText("adds 1;heavy 0;burns (soot = 40) * (more = 9) * 100;");
+        for (int b = 0; b < 10; b++) {
+            x.bit(b - 1, 0, 19, b == 0 ? 9 : 0);
+        }
+        due("not by 39", x.drawn(5, 9, 39, 0), -1);
+        due("by 40, at the pot", x.drawn(5, 9, 40, 0), 40);
+        due("none of twenty", x.odds(5, 9, 40, 0, 0), 0);
+        due("all by 39", x.odds(5, 9, 39, 0, 0), 1);
+        for (int seed = 0; seed < 200; seed++) {
+            int lot = lots(seed, 400)[399];
+            x = withText("adds 1;heavy 0;burns (soot = 40) * (more = 9) * " + lot + ";");
+            for (int b = 0; b < 10; b += 1) {
+                x.bit(b - 1, 0, 19, b == 0 ? 9 : 0);
+            }
+            due("the last lot is not below itself, seed " + seed, x.drawn(seed, 9, 40, 0), -1);
+            x.force(Check.text(x, "adds 1;heavy 0;burns (soot = 40) * (more = 9) * " + (lot + 1) + ";"));
+            due("it is below one more, seed " + seed, x.drawn(seed, 9, 40, 0), 40);
+        }
+    }
+
     private static int[] lots(int seed, int many) {
         int[] lots = new int[many];
         java.math.BigInteger lot = java.math.BigInteger.valueOf(seed + 1);
@@ -138,7 +161,10 @@ public final class LotsTest {
         due("no fire: 1", x.odds(3, 0, 0, 99, 0), 1);
         due("never: 0", x.odds(3, 0, 40, 99, 0), 0);
         due("of 1", x.odds(3, 0, 40, 99, 1), 1);
-        due("soot is as it was", x.told(0, 6), 0);
+        x.lay(0, 8);
+        x.force(0);
+        x.odds(3, 0, 40, 99, 1);
+        due("soot is as it was", x.told(0, 6), 8);
     }
 
     private static void promise33Edges() {

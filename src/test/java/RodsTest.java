@@ -99,6 +99,11 @@ public final class RodsTest {
         due("all", x.sweep(3, 40), 50);
         due("clean", x.told(0, 6) + x.told(2, 6) + x.told(3, 6), 0);
         due("nothing goes", x.sweep(3, 99), 0);
+        x.lay(3, 5);
+        x.mend(3, 1, 0);
+        Check.text(x, "adds 0;heavy 0;burns 0;");
+        x.force(1);
+        due("force 0 is one", x.sweep(3, 0), 5);
         for (int force : NO_NUMBER) {
             due("force " + force, x.sweep(3, force), -7);
         }

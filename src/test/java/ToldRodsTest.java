@@ -80,6 +80,10 @@ public final class ToldRodsTest {
         tell(x, 0, 2);
         due("nothing told: all", x.whose(0), 6);
         due("no bits", whoseOfNone(), 0);
+        UpTheFlue one = new UpTheFlue();
+        one.bit(-1, 0, 10, 0);
+        tell(one, 3, 0, 0, -1);
+        due("0 alone", one.whose(3), 1);
         for (int s : NO_SHEET) {
             due("no sheet " + s, x.whose(s), -2);
         }
