@@ -917,9 +917,7 @@ public final class UpTheFlue {
             size = imageSize;
             for (int i = 0; i < bits.length; i++) {
                 Bit bit = bitAt(i);
-                if (bit == null) {
-                    bits[i] = null;
-                } else {
+                if (bit != null) {
                     bit.kind = bit.imageKind;
                     bit.more = bit.imageMore;
                     bit.soot = bit.imageSoot;

@@ -152,6 +152,9 @@ public final class BurnsTest {
         }
         x.bit(0, 0, 19, 0);
         due("no fireplace 0", x.often(0, 0, 0, 0), -5);
+        x = withText("adds 0;heavy 0;burns 0;");
+        x.bit(-1, 0, 19, 0);
+        due("no soot is not above 0", x.often(0, 0, 0, 0), 24);
     }
 
     private static void promise25() {
