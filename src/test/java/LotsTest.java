@@ -142,9 +142,9 @@ public final class LotsTest {
     }
 
     private static void promise33() {
-        UpTheFlue x = withText("adds 0;heavy 0;burns heat * 10 + wet;");
-        x.bit(-1, 0, 19, 0);
         for (int seed : new int[] {0, 5, 99980, 99990, 99999}) {
+            UpTheFlue x = withText("adds 0;heavy 0;burns heat * 10 + wet;");
+            x.bit(-1, 0, 19, 0);
             for (int burns = 0; burns <= 99; burns++) {
                 int nothing = 0;
                 for (int i = 0; i < 20; i++) {
@@ -156,6 +156,8 @@ public final class LotsTest {
                 due("below, seed " + seed + " burns " + burns, x.odds(seed, 0, 3, burns, 1), 20 / common);
             }
         }
+        UpTheFlue x = withText("adds 0;heavy 0;burns heat * 10 + wet;");
+        x.bit(-1, 0, 19, 0);
         due("always: 1", x.odds(3, 0, 40, 0, 0), 1);
         due("of 1", x.odds(3, 0, 40, 0, 1), 1);
         due("no fire: 1", x.odds(3, 0, 0, 99, 0), 1);

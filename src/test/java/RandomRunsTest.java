@@ -7,6 +7,8 @@ import java.util.Random;
 public final class RandomRunsTest {
     private static final int RUNS = 1500;
     private static final int CALLS = 512;
+    /** A text is fed by 32 calls, read and forced by two. */
+    private static final int MOST_AT_ONCE = 34;
     private static final int[] EXTREMES = {Integer.MIN_VALUE, Integer.MAX_VALUE, -1, -2, 255, 256, 1 << 16, -100};
 
     private final Random chance = new Random(20261118);
@@ -32,7 +34,7 @@ public final class RandomRunsTest {
         model = new Model();
         trace = "";
         int calls = 0;
-        while (calls < CALLS) {
+        while (calls + MOST_AT_ONCE <= CALLS) {
             double kind = chance.nextDouble();
             if (kind < 0.04) {
                 calls += feedText();
@@ -84,7 +86,7 @@ public final class RandomRunsTest {
     }
 
     /** What each number of a call may be; two numbers a range. */
-    private static int[] ranges(String name) {
+    static int[] ranges(String name) {
         switch (name) {
             case "count": return new int[] {0, 5};
             case "feed": return new int[] {1, 5, 0, 255, 0, 255, 0, 255, 0, 255, 0, 255};
