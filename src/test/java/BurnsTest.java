@@ -23,15 +23,8 @@ public final class BurnsTest {
         CHECK.due(call, got, want);
     }
 
-    private static UpTheFlue withText(String text) {
-        UpTheFlue x = new UpTheFlue();
-        due("text " + text, Check.text(x, text), 1);
-        x.force(1);
-        return x;
-    }
-
     private static void promise22() {
-        UpTheFlue x = withText("adds 10;heavy 0;burns soot + heat + wet * 10;");
+        UpTheFlue x = Check.under("adds 10;heavy 0;burns soot + heat + wet * 10;");
         x.bit(-1, 0, 19, 0);
         x.bit(0, 1, 19, 3);
         // Behind the first fire 0 has 10, 1 has 13; behind the second 20, 26.
@@ -47,7 +40,7 @@ public final class BurnsTest {
         due("it lies there still", x.told(0, 6), 5);
         due("there, too", x.told(1, 6), 7);
         // Cut each time: 1000000000, 910000000, 828100000, 753571000, 685749610, 624032145 (.1 cut).
-        x = withText("adds 0;heavy 0;burns 9;");
+        x = Check.under("adds 0;heavy 0;burns 9;");
         x.bit(-1, 0, 19, 0);
         due("cut", x.fine(0, 5, 0), 624032145L);
         due("cut once more: 567869251.95", x.fine(0, 6, 0), 567869251L);
@@ -62,13 +55,13 @@ public final class BurnsTest {
         for (int f : new int[] {-1, 0, 2, Integer.MIN_VALUE, Integer.MAX_VALUE}) {
             due("no fireplace " + f, x.fine(f, 1, 0), UpTheFlue.NO);
         }
-        x = withText("adds 9;heavy 0;burns 0;");
+        x = Check.under("adds 9;heavy 0;burns 0;");
         x.bit(-1, 0, 19, 0);
         due("nothing burns", x.fine(0, 40, 99), 1000000000L);
     }
 
     private static void promise23() {
-        UpTheFlue x = withText("adds 10;heavy 0;burns soot;");
+        UpTheFlue x = Check.under("adds 10;heavy 0;burns soot;");
         x.bit(-1, 0, 19, 0);
         // 900000000, 720000000, 504000000, 302400000, 151200000.
         due("below all", x.when(0, 0, 0), 1);
@@ -91,20 +84,20 @@ public final class BurnsTest {
         }
         x.bit(0, 0, 19, 0);
         due("no fireplace 0", x.when(0, 0, 0), -5);
-        x = withText("adds 1;heavy 0;burns not soot < 40;");
+        x = Check.under("adds 1;heavy 0;burns not soot < 40;");
         x.bit(-1, 0, 19, 0);
         due("by the last fire of 40", x.when(0, 0, 0), 40);
         due("1 of a hundred is not below .99", x.when(0, 0, 1), -1);
         x.lay(0, 1);
         due("by 40 twice", x.when(0, 0, 1), 40);
-        x = withText("adds 1;heavy 0;burns heat - 5 + wet - 5;");
+        x = Check.under("adds 1;heavy 0;burns heat - 5 + wet - 5;");
         x.bit(-1, 0, 19, 0);
         due("never", x.when(0, 55, 0), -1);
         due("at once", x.when(0, 65, 0), 1);
     }
 
     private static void promise24() {
-        UpTheFlue x = withText("adds 2 + heat + wet;heavy soot;burns 0;");
+        UpTheFlue x = Check.under("adds 2 + heat + wet;heavy soot;burns 0;");
         x.bit(-1, 0, 19, 0);
         x.bit(0, 1, 19, 1);
         // Each fire lays 2 in 0, 3 in 1: swept clean behind n fires, 3n is the most.
@@ -129,7 +122,7 @@ public final class BurnsTest {
     }
 
     private static void promise24Edges() {
-        UpTheFlue x = withText("adds 3;heavy 0;burns 0;");
+        UpTheFlue x = Check.under("adds 3;heavy 0;burns 0;");
         x.bit(-1, 0, 19, 0);
         x.bit(-1, 0, 19, 0);
         x.lay(1, 99);
@@ -152,13 +145,13 @@ public final class BurnsTest {
         }
         x.bit(0, 0, 19, 0);
         due("no fireplace 0", x.often(0, 0, 0, 0), -5);
-        x = withText("adds 0;heavy 0;burns 0;");
+        x = Check.under("adds 0;heavy 0;burns 0;");
         x.bit(-1, 0, 19, 0);
         due("no soot is not above 0", x.often(0, 0, 0, 0), 24);
     }
 
     private static void promise25() {
-        UpTheFlue x = withText("adds 5;heavy 0;burns 0;");
+        UpTheFlue x = Check.under("adds 5;heavy 0;burns 0;");
         x.bit(-1, 0, 19, 0);
         x.bit(-1, 0, 19, 0);
         x.bit(-1, 1, 19, 5);
@@ -178,7 +171,7 @@ public final class BurnsTest {
 
     /** What is like: the first order by fireplaces; they are numbers of bits. */
     private static void promise25First() {
-        UpTheFlue x = withText("adds heat;heavy wet;burns 0;");
+        UpTheFlue x = Check.under("adds heat;heavy wet;burns 0;");
         x.bit(-1, 0, 19, 0);
         x.bit(0, 0, 19, 0);
         x.bit(0, 0, 19, 0);
@@ -202,7 +195,7 @@ public final class BurnsTest {
         UpTheFlue none = new UpTheFlue();
         due("no bits, order", none.round(99, 99, 0), 0);
         due("no bits, soot", none.round(99, 99, 1), 0);
-        UpTheFlue x = withText("adds 1;heavy 50;burns 0;");
+        UpTheFlue x = Check.under("adds 1;heavy 50;burns 0;");
         x.bit(-1, 0, 19, 0);
         due("one alone: 0", x.round(0, 50, 0), 0);
         due("one alone", x.round(0, 50, 1), 1);

@@ -43,4 +43,33 @@ final class Check {
         feed(x, bytes);
         return x.text();
     }
+
+    /** A new object under the law of a text, which is its text 1. */
+    static UpTheFlue under(String bytes) {
+        UpTheFlue x = new UpTheFlue();
+        if (text(x, bytes) != 1 || x.force(1) != 0) {
+            throw new IllegalStateException("no law: " + bytes);
+        }
+        return x;
+    }
+
+    /** A flue of so many like bits in a house that has none, the last of them its fireplace. */
+    static void flueOf(UpTheFlue x, int bits, int kind, int longWide, int bendMore) {
+        for (int b = 0; b < bits; b++) {
+            if (x.bit(b - 1, kind, longWide, bendMore) != b) {
+                throw new IllegalStateException("no bit " + b);
+            }
+        }
+    }
+
+    /** A sheet becomes a row of these numbers. */
+    static void tell(UpTheFlue x, int s, int sort, int... numbers) {
+        int done = x.sheet(s, sort, numbers.length);
+        for (int i = 0; i < numbers.length; i++) {
+            done += x.cell(s, i, numbers[i]);
+        }
+        if (done != 1 + numbers.length) {
+            throw new IllegalStateException("no sheet " + s);
+        }
+    }
 }

@@ -38,20 +38,6 @@ public final class EdgesTest {
         CHECK.due(call, got, want);
     }
 
-    private static UpTheFlue withText(String text) {
-        UpTheFlue x = new UpTheFlue();
-        due("text " + text, Check.text(x, text), 1);
-        x.force(1);
-        return x;
-    }
-
-    /** A flue of so many bits, the last of them its fireplace. */
-    private static void flueOf(UpTheFlue x, int bits, int kind, int longWide, int bendMore) {
-        for (int b = 0; b < bits; b++) {
-            x.bit(b - 1, kind, longWide, bendMore);
-        }
-    }
-
     private static void terms512Calls() {
         UpTheFlue x = new UpTheFlue();
         x.bit(-1, 0, 19, 0);
@@ -204,18 +190,18 @@ public final class EdgesTest {
     private static void promise6OneByOne() {
         int[][] adds = {{-1, 0}, {0, 0}, {1, 1}, {98, 98}, {99, 99}, {100, 99}, {101, 99}};
         for (int[] each : adds) {
-            UpTheFlue x = withText("adds " + each[0] + ";heavy " + each[0] + ";burns " + each[0] + ";");
+            UpTheFlue x = Check.under("adds " + each[0] + ";heavy " + each[0] + ";burns " + each[0] + ";");
             x.bit(-1, 0, 19, 0);
             due("adds " + each[0], x.asks(0, 0, 9, 9), each[1]);
             due("heavy " + each[0], x.asks(1, 0, 9, 9), each[1]);
             due("burns " + each[0], x.asks(2, 0, 9, 9), Math.max(0, Math.min(100, each[0])));
         }
-        UpTheFlue x = withText("adds 8192*8192*32;heavy 8192*8192*32-1;burns 8192*8192*64+7;");
+        UpTheFlue x = Check.under("adds 8192*8192*32;heavy 8192*8192*32-1;burns 8192*8192*64+7;");
         x.bit(-1, 0, 19, 0);
         due("the least int", x.asks(0, 0, 0, 0), 0);
         due("the greatest, by a wrap", x.asks(1, 0, 0, 0), 99);
         due("7, by a wrap", x.asks(2, 0, 0, 0), 7);
-        x = withText("adds -(8192*8192*32)=8192*8192*32;heavy 5 or wet;burns heat and 5;");
+        x = Check.under("adds -(8192*8192*32)=8192*8192*32;heavy 5 or wet;burns heat and 5;");
         x.bit(-1, 0, 19, 0);
         due("- of the least int is it", x.asks(0, 0, 0, 0), 1);
         due("or is 1", x.asks(1, 0, 0, 0), 1);
@@ -265,7 +251,7 @@ public final class EdgesTest {
 
     private static void promise12Widest() {
         UpTheFlue x = new UpTheFlue();
-        flueOf(x, 10, 0, 69, 0);
+        Check.flueOf(x, 10, 0, 69, 0);
         due("all ten", x.flue(9, 1), 1023);
         due("60 rods", x.flue(9, 3), 60);
         due("the pot alone", x.flue(0, 1), 1);
@@ -296,7 +282,7 @@ public final class EdgesTest {
     /** Bits of one rod each: every rod another one. */
     private static void promise14ByOneRod() {
         UpTheFlue x = new UpTheFlue();
-        flueOf(x, 10, 0, 10, 0);
+        Check.flueOf(x, 10, 0, 10, 0);
         for (int b = 0; b < 10; b++) {
             x.lay(b, 9 * b);
         }
@@ -309,17 +295,17 @@ public final class EdgesTest {
     }
 
     private static void promise15Bounds() {
-        UpTheFlue x = withText("adds 0;heavy 9999;burns 0;");
-        flueOf(x, 3, 0, 21, 0);
+        UpTheFlue x = Check.under("adds 0;heavy 9999;burns 0;");
+        Check.flueOf(x, 3, 0, 21, 0);
         due("99 is not above 99", x.push(2, 99, 0), -1);
         due("through all", x.push(2, 99, 1), 6);
         due("99 is above 98", x.push(2, 98, 0), 2);
         due("none ahead", x.push(2, 98, 1), 0);
-        x = withText("adds 0;heavy -1;burns 0;");
-        flueOf(x, 3, 0, 20, 0);
+        x = Check.under("adds 0;heavy -1;burns 0;");
+        Check.flueOf(x, 3, 0, 20, 0);
         due("0 wide, whatever the force", x.push(2, 99, 0), 2);
-        x = withText("adds 0;heavy -1;burns 0;");
-        flueOf(x, 3, 0, 21, 0);
+        x = Check.under("adds 0;heavy -1;burns 0;");
+        Check.flueOf(x, 3, 0, 21, 0);
         due("0 is not above 0", x.push(2, 0, 0), -1);
         x.mend(1, 2, 1);
         due("the first that is 0 wide", x.push(2, 99, 0), 1);
@@ -332,8 +318,8 @@ public final class EdgesTest {
     }
 
     private static void promise16Halves() {
-        UpTheFlue x = withText("adds 0" + REST);
-        flueOf(x, 1, 3, 19, 9);
+        UpTheFlue x = Check.under("adds 0" + REST);
+        Check.flueOf(x, 1, 3, 19, 9);
         int[][] halves = {{0, 0}, {1, 0}, {2, 1}, {3, 1}, {98, 49}, {99, 49}};
         for (int[] each : halves) {
             x.lay(0, each[0]);
@@ -344,8 +330,8 @@ public final class EdgesTest {
         x.lay(0, 89);
         due("all is left of a LOST", x.sweep(0, 99), 0);
         due("89", x.told(0, 6), 89);
-        UpTheFlue y = withText("adds 0" + REST);
-        flueOf(y, 10, 0, 19, 0);
+        UpTheFlue y = Check.under("adds 0" + REST);
+        Check.flueOf(y, 10, 0, 19, 0);
         for (int b = 0; b < 10; b++) {
             y.lay(b, 99);
         }
@@ -353,8 +339,8 @@ public final class EdgesTest {
     }
 
     private static void promise17Bounds() {
-        UpTheFlue x = withText("adds 0;heavy soot * 2;burns 0;");
-        flueOf(x, 3, 0, 11, 0);
+        UpTheFlue x = Check.under("adds 0;heavy soot * 2;burns 0;");
+        Check.flueOf(x, 3, 0, 11, 0);
         due("0 is the least", x.needs(2), 0);
         x.lay(1, 49);
         due("98", x.needs(2), 98);
@@ -369,7 +355,7 @@ public final class EdgesTest {
 
     /** Of heavy heat and wet are 0, wherever a fire is told, too. */
     private static void heavyWithoutFire() {
-        UpTheFlue x = withText("adds 5;heavy 40 + heat * 10 + wet;burns 0;");
+        UpTheFlue x = Check.under("adds 5;heavy 40 + heat * 10 + wet;burns 0;");
         x.bit(-1, 0, 19, 0);
         due("rod", x.rod(0, 1, 1), 40);
         due("push", x.push(0, 40, 0), -1);
@@ -391,25 +377,25 @@ public final class EdgesTest {
     }
 
     private static void promise18Most() {
-        UpTheFlue x = withText("adds 33" + REST);
-        flueOf(x, 10, 0, 19, 0);
+        UpTheFlue x = Check.under("adds 33" + REST);
+        Check.flueOf(x, 10, 0, 19, 0);
         due("33 each", x.fire(9, 1, 0), 330);
         due("99 each", x.fire(9, 2, 0), 990);
         due("not one more", x.fire(9, 20, 99), 990);
-        x = withText("adds 1" + REST);
-        flueOf(x, 1, 0, 19, 0);
+        x = Check.under("adds 1" + REST);
+        Check.flueOf(x, 1, 0, 19, 0);
         x.lay(0, 78);
         due("twenty", x.fire(0, 20, 0), 98);
         due("one", x.fire(0, 1, 0), 99);
         due("99 at most", x.fire(0, 1, 0), 99);
-        x = withText("adds 0 - 5" + REST);
-        flueOf(x, 1, 0, 19, 0);
+        x = Check.under("adds 0 - 5" + REST);
+        Check.flueOf(x, 1, 0, 19, 0);
         x.lay(0, 7);
         due("never less", x.fire(0, 20, 0), 7);
         x.mend(0, 1, 9);
         due("a SOOTY grows MORE all the same", x.fire(0, 1, 0), 16);
-        x = withText("adds 9999" + REST);
-        flueOf(x, 1, 5, 19, 9);
+        x = Check.under("adds 9999" + REST);
+        Check.flueOf(x, 1, 5, 19, 9);
         due("half of 99", x.fire(0, 1, 0), 49);
         due("half once more", x.fire(0, 1, 0), 98);
         due("99 at most", x.fire(0, 1, 0), 99);
@@ -417,7 +403,7 @@ public final class EdgesTest {
 
     private static void promise19AllLeaks() {
         UpTheFlue x = new UpTheFlue();
-        flueOf(x, 10, 5, 19, 9);
+        Check.flueOf(x, 10, 5, 19, 9);
         int[] out = {0, 0, 0, 0, 0, 0, 0, 9 * 1, 90, 900};
         // 1000: 900, 100 left: 90, 10 left: 9, 1 left: .9 is cut, 1 stays left.
         for (int b = 0; b < 10; b++) {
@@ -425,7 +411,7 @@ public final class EdgesTest {
             due("left, asked by " + b, x.smoke(9, b, 1), 1);
         }
         x = new UpTheFlue();
-        flueOf(x, 10, 5, 19, 0);
+        Check.flueOf(x, 10, 5, 19, 0);
         due("none leaks", x.smoke(9, 9, 0), 0);
         due("all is left", x.smoke(9, 9, 1), 1000);
         x.bit(-1, 5, 19, 9);
@@ -434,11 +420,11 @@ public final class EdgesTest {
 
     private static void promise20Ends() {
         UpTheFlue x = new UpTheFlue();
-        flueOf(x, 10, 0, 69, 0);
+        Check.flueOf(x, 10, 0, 69, 0);
         due("300 at most", x.draw(9, 0), 300);
         due("wind 99", x.draw(9, 99), 201);
         x = new UpTheFlue();
-        flueOf(x, 10, 0, 10, 40);
+        Check.flueOf(x, 10, 0, 10, 40);
         due("ten times 5 - 8 - 9", x.draw(9, 0), -120);
         due("wind 99", x.draw(9, 99), -219);
         due("below 0 by no wind", x.smokes(0), 512);
@@ -454,35 +440,35 @@ public final class EdgesTest {
     }
 
     private static void promise22Ends() {
-        UpTheFlue x = withText("adds 0;heavy 0;burns 99;");
-        flueOf(x, 1, 0, 19, 0);
+        UpTheFlue x = Check.under("adds 0;heavy 0;burns 99;");
+        Check.flueOf(x, 1, 0, 19, 0);
         long want = 1000000000L;
         for (int many = 0; many <= 40; many++) {
             due("hundredths, fires " + many, x.fine(0, many, 0), want);
             want /= 100;
         }
-        x = withText("adds 0;heavy 0;burns 1;");
-        flueOf(x, 10, 0, 19, 0);
+        x = Check.under("adds 0;heavy 0;burns 1;");
+        Check.flueOf(x, 10, 0, 19, 0);
         want = 1000000000L;
         for (int i = 0; i < 400; i++) {
             want = want * 99 / 100;
         }
         due("400 times cut", x.fine(9, 40, 99), want);
         // Soot of both grows ahead of both being asked: .5, .5, not 1.
-        x = withText("adds 50;heavy 0;burns soot;");
-        flueOf(x, 2, 0, 19, 0);
+        x = Check.under("adds 50;heavy 0;burns soot;");
+        Check.flueOf(x, 2, 0, 19, 0);
         due("behind soot has grown", x.fine(1, 1, 0), 250000000L);
         due("then it is sure but for a hundredth: .25 * .01 * .01", x.fine(1, 2, 0), 25000L);
     }
 
     private static void promise23Ends() {
-        UpTheFlue x = withText("adds 1;heavy 0;burns not soot < 41;");
-        flueOf(x, 1, 0, 19, 0);
+        UpTheFlue x = Check.under("adds 1;heavy 0;burns not soot < 41;");
+        Check.flueOf(x, 1, 0, 19, 0);
         due("by the 41st: none", x.when(0, 0, 0), -1);
         x.lay(0, 1);
         due("by the 40th", x.when(0, 0, 0), 40);
-        x = withText("adds 0;heavy 0;burns soot;");
-        flueOf(x, 8, 0, 19, 0);
+        x = Check.under("adds 0;heavy 0;burns soot;");
+        Check.flueOf(x, 8, 0, 19, 0);
         int[] soot = {12, 26, 16, 6, 3, 2, 26, 6};
         for (int b = 0; b < soot.length; b++) {
             x.lay(7 - b, soot[b]);
@@ -490,33 +476,33 @@ public final class EdgesTest {
         due("3 below .34", x.fine(7, 1, 0), 339999997L);
         due("is below it", x.when(7, 0, 66), 1);
         due("not below .33 by 1", x.when(7, 0, 67), 2);
-        x = withText("adds 0;heavy 0;burns 99;");
-        flueOf(x, 1, 0, 19, 0);
+        x = Check.under("adds 0;heavy 0;burns 99;");
+        Check.flueOf(x, 1, 0, 19, 0);
         due(".01 is not below .01", x.when(0, 0, 99), 2);
         due(".01 is below .02", x.when(0, 0, 98), 1);
-        x = withText("adds 0;heavy 0;burns 100;");
-        flueOf(x, 1, 0, 19, 0);
+        x = Check.under("adds 0;heavy 0;burns 100;");
+        Check.flueOf(x, 1, 0, 19, 0);
         due("0 is below all", x.when(0, 99, 99), 1);
     }
 
     /** Not all below the greatest n need do. */
     private static void promise24Greatest() {
-        UpTheFlue x = withText("adds 2;heavy (soot = 4) * 99;burns 0;");
-        flueOf(x, 1, 0, 19, 0);
+        UpTheFlue x = Check.under("adds 2;heavy (soot = 4) * 99;burns 0;");
+        Check.flueOf(x, 1, 0, 19, 0);
         // Behind each two fires there are 4, 8: too heavy, then swept; behind each three 6.
         due("3, though 2 does not do", x.often(0, 0, 98, 6), 3);
         due("line 5", x.often(0, 0, 98, 5), 1);
         due("with a force that does: 4, then 6", x.often(0, 0, 99, 5), 2);
-        x = withText("adds soot = 0;heavy 0;burns 0;");
-        flueOf(x, 1, 0, 19, 0);
+        x = Check.under("adds soot = 0;heavy 0;burns 0;");
+        Check.flueOf(x, 1, 0, 19, 0);
         due("all of them do", x.often(0, 0, 0, 1), 24);
         due("none does", x.often(0, 0, 0, 0), -1);
-        x = withText("adds 99" + REST);
-        flueOf(x, 1, 0, 19, 0);
+        x = Check.under("adds 99" + REST);
+        Check.flueOf(x, 1, 0, 19, 0);
         due("99 is not more than 99", x.often(0, 0, 0, 99), 24);
         due("99 is more than 98", x.often(0, 0, 0, 98), -1);
-        x = withText("adds 4" + REST);
-        flueOf(x, 2, 0, 19, 0);
+        x = Check.under("adds 4" + REST);
+        Check.flueOf(x, 2, 0, 19, 0);
         x.lay(0, 3);
         due("the pot's: 3 + 4 * 23 = 95, 99", x.often(1, 0, 0, 98), 23);
         due("by 24", x.often(1, 0, 0, 99), 24);
@@ -544,7 +530,7 @@ public final class EdgesTest {
 
     /** Ten more by each fire: what has most is swept first, so that all end at or below 10 * (many and 4). */
     private static void bestIs(int[] order) {
-        UpTheFlue x = withText("adds 10" + REST);
+        UpTheFlue x = Check.under("adds 10" + REST);
         for (int b = 0; b < order.length; b++) {
             x.bit(-1, 0, 19, 0);
         }

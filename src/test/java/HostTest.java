@@ -177,16 +177,9 @@ public final class HostTest {
         due("far below all", x.copy(0, LEAST, 0, LEAST, LEAST), -12);
     }
 
-    private static void tell(UpTheFlue x, int s, int sort, int... numbers) {
-        x.sheet(s, sort, numbers.length);
-        for (int i = 0; i < numbers.length; i++) {
-            x.cell(s, i, numbers[i]);
-        }
-    }
-
     private static void promise39() {
         UpTheFlue x = new UpTheFlue();
-        tell(x, 0, 2, 99, -1, 3, 25, 17, 0, 6, 25, 17, 0, 5, 69, 49, 2, 0, 11, 0, 1, 0, 34, 2);
+        Check.tell(x, 0, 2, 99, -1, 3, 25, 17, 0, 6, 25, 17, 0, 5, 69, 49, 2, 0, 11, 0, 1, 0, 34, 2);
         due("three of five came", x.bitsBy(0, 2, 1, 5), 3);
         due("bits", x.count(0), 3);
         int[][] told = {{3, -1, 2, 5, 1, 7}, {5, 0, 6, 9, 4, 9}, {0, 1, 3, 4, 0, 2}};
@@ -199,7 +192,7 @@ public final class HostTest {
         due("from another place on", x.bitsBy(0, 2, 9, 1), 1);
         due("it is above by number", x.told(3, 1), 0);
         x = new UpTheFlue();
-        tell(x, 0, 2, -1, 0, 11, 0, -1, 0, 11, 0, -1, 0, 11, 0, -1, 0, 11, 0, -1, 0, 11, 0,
+        Check.tell(x, 0, 2, -1, 0, 11, 0, -1, 0, 11, 0, -1, 0, 11, 0, -1, 0, 11, 0, -1, 0, 11, 0,
             -1, 0, 11, 0, -1, 0, 11, 0, -1, 0, 11, 0, -1, 0, 11, 0, -1, 0, 11, 0);
         due("seven", x.bitsBy(0, 2, 12, 7), 7);
         due("three more, then it is full", x.bitsBy(0, 2, 0, 10), 3);
@@ -209,7 +202,7 @@ public final class HostTest {
 
     private static void promise39Edges() {
         UpTheFlue x = new UpTheFlue();
-        tell(x, 0, 2, -1, 0, 11, 0, 0, 0, 22, 0, 0);
+        Check.tell(x, 0, 2, -1, 0, 11, 0, 0, 0, 22, 0, 0);
         due("what stood ahead came", x.bitsBy(0, 2, 0, 3), -12);
         due("two", x.count(0), 2);
         due("the last of four outside", x.bitsBy(0, 2, 6, 1), -12);
@@ -236,13 +229,13 @@ public final class HostTest {
     private static void promise39Sorts() {
         for (int sort = 0; sort < 3; sort++) {
             UpTheFlue x = new UpTheFlue();
-            tell(x, 3, sort, sort == 0 ? 255 : sort == 1 ? 65535 : -1, 4, 69, 49, 0, 2, sort == 0 ? 256 + 10 : 10, 0);
+            Check.tell(x, 3, sort, sort == 0 ? 255 : sort == 1 ? 65535 : -1, 4, 69, 49, 0, 2, sort == 0 ? 256 + 10 : 10, 0);
             due("sort " + sort, x.bitsBy(3, sort, 0, 2), 2);
             due("-1 as bytes and shorts have it", x.told(0, 1), -1);
             due("the second", x.told(1, 2), 1);
         }
         UpTheFlue x = new UpTheFlue();
-        tell(x, 3, 2, 255, 4, 69, 49);
+        Check.tell(x, 3, 2, 255, 4, 69, 49);
         due("255 is none above", x.bitsBy(3, 2, 0, 1), 0);
     }
 

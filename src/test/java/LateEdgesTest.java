@@ -34,30 +34,10 @@ public final class LateEdgesTest {
         CHECK.due(call, got, want);
     }
 
-    private static UpTheFlue withText(String text) {
-        UpTheFlue x = new UpTheFlue();
-        due("text " + text, Check.text(x, text), 1);
-        x.force(1);
-        return x;
-    }
-
-    private static void tell(UpTheFlue x, int s, int sort, int... numbers) {
-        due("sheet " + s, x.sheet(s, sort, numbers.length), 1);
-        for (int i = 0; i < numbers.length; i++) {
-            due("cell " + i, x.cell(s, i, numbers[i]), 1);
-        }
-    }
-
-    private static void flueOf(UpTheFlue x, int bits, int longWide, int bendMore) {
-        for (int b = 0; b < bits; b++) {
-            x.bit(b - 1, 0, longWide, bendMore);
-        }
-    }
-
     /** Forty told of sixty rods: what lies behind is not told. */
     private static void promise27Forty() {
-        UpTheFlue x = withText("adds 0;heavy soot;burns 0;");
-        flueOf(x, 10, 69, 0);
+        UpTheFlue x = Check.under("adds 0;heavy soot;burns 0;");
+        Check.flueOf(x, 10, 0, 69, 0);
         for (int b = 0; b < 10; b++) {
             x.lay(b, 10 * b + 9);
         }
@@ -81,17 +61,17 @@ public final class LateEdgesTest {
     }
 
     private static void promise27Negative() {
-        UpTheFlue x = withText("adds 0;heavy 0;burns 0;");
-        flueOf(x, 1, 19, 0);
+        UpTheFlue x = Check.under("adds 0;heavy 0;burns 0;");
+        Check.flueOf(x, 1, 0, 19, 0);
         for (int number : new int[] {-2, 1, 99, Integer.MIN_VALUE, Integer.MAX_VALUE}) {
-            tell(x, 0, 2, 0, number);
+            Check.tell(x, 0, 2, 0, number);
             due("through is -1 alone, not " + number, x.judge(0, 0), 2);
-            tell(x, 0, 2, number);
+            Check.tell(x, 0, 2, number);
             due("heavy is 0, not " + number, x.judge(0, 0), 1);
         }
-        tell(x, 0, 2, -1);
+        Check.tell(x, 0, 2, -1);
         due("not yet through", x.judge(0, 0), 1);
-        tell(x, 0, 2, 0, -1, -1, 0);
+        Check.tell(x, 0, 2, 0, -1, -1, 0);
         due("through, and so on", x.judge(0, 0), 4);
     }
 
@@ -104,16 +84,16 @@ public final class LateEdgesTest {
         }
         due("nothing told: all ten", x.whose(0), 1023);
         for (int bent = 0; bent < 4; bent++) {
-            tell(x, 0, 2, 5 * bent, -1);
+            Check.tell(x, 0, 2, 5 * bent, -1);
             due("bent " + bent, x.whose(0), new int[] {1 + 16 + 256, 2 + 32 + 512, 4 + 64, 8 + 128}[bent]);
         }
-        tell(x, 0, 2, 5, 5);
+        Check.tell(x, 0, 2, 5, 5);
         due("one rod too many", x.whose(0), 0);
     }
 
     private static void promise29Six() {
         UpTheFlue x = new UpTheFlue();
-        flueOf(x, 1, 10, 0);
+        Check.flueOf(x, 1, 0, 10, 0);
         x.sheet(0, 2, 0);
         due("the one text", x.laws(0, 0), 1);
         for (int t = 1; t < 6; t++) {
@@ -121,7 +101,7 @@ public final class LateEdgesTest {
         }
         due("nothing told: all six", x.laws(0, 0), 63);
         for (int t = 0; t < 6; t++) {
-            tell(x, 0, 2, 10 * t, -1);
+            Check.tell(x, 0, 2, 10 * t, -1);
             for (int law = 0; law < 6; law++) {
                 x.force(law);
                 due("text " + t + ", whichever is the law", x.laws(0, 0), 1 << t);
@@ -133,37 +113,37 @@ public final class LateEdgesTest {
 
     private static void promise30Most() {
         UpTheFlue x = new UpTheFlue();
-        flueOf(x, 10, 69, 0);
+        Check.flueOf(x, 10, 0, 69, 0);
         x.sheet(0, 2, 0);
         due("nothing told: ten times nine", x.blocked(0, 9, 1), 90);
         due("the fireplace's with 1", x.blocked(0, 9, 0), 91);
-        x = withText("adds 0;heavy 50 - wide;burns 0;");
-        flueOf(x, 1, 19, 0);
-        tell(x, 0, 2, 41);
+        x = Check.under("adds 0;heavy 50 - wide;burns 0;");
+        Check.flueOf(x, 1, 0, 19, 0);
+        Check.tell(x, 0, 2, 41);
         due("not with 0", x.blocked(0, 0, 1), 0);
         due("none", x.blocked(0, 0, 0), -1);
         for (int more = 1; more <= 9; more++) {
-            tell(x, 0, 2, 41 + more, -1);
+            Check.tell(x, 0, 2, 41 + more, -1);
             due("bit 0 with " + more, x.blocked(0, 0, 0), more);
             due("that alone", x.blocked(0, 0, 1), 1);
         }
-        tell(x, 0, 2, 51);
+        Check.tell(x, 0, 2, 51);
         due("not with 10", x.blocked(0, 0, 1), 0);
     }
 
     /** Whichever kind it is, it were a BLOCKED; the others are as they are. */
     private static void promise30Kinds() {
         for (int kind = 0; kind < 6; kind++) {
-            UpTheFlue x = withText("adds 0;heavy 50 - wide;burns 0;");
+            UpTheFlue x = Check.under("adds 0;heavy 50 - wide;burns 0;");
             x.bit(-1, 0, 16, 0);
             x.bit(0, kind, 18, 3);
             x.lay(1, 25);
             int is = kind == 2 ? 5 : kind == 4 ? 3 : 8;
             due("IS", x.told(1, 7), is);
-            tell(x, 0, 2, 50 - 6, 50 - 6, -1);
+            Check.tell(x, 0, 2, 50 - 6, 50 - 6, -1);
             due("1 with 2, not by its soot, kind " + kind, x.blocked(0, 1, 0), 12);
             due("that alone", x.blocked(0, 1, 1), 1);
-            tell(x, 0, 2, 50 - is, 50 - 5, -1);
+            Check.tell(x, 0, 2, 50 - is, 50 - 5, -1);
             due("0 with 1, 1 as it is, kind " + kind, x.blocked(0, 1, 1), 1);
             due("bit 0 with 1", x.blocked(0, 1, 0), 1);
             due("KIND is as it was", x.told(1, 0), kind);
@@ -174,8 +154,8 @@ public final class LateEdgesTest {
 
     private static void promise31Sizes() {
         for (int n = 0; n <= 40; n++) {
-            UpTheFlue x = withText("adds 0;heavy soot;burns 0;");
-            flueOf(x, 5, 69, 0);
+            UpTheFlue x = Check.under("adds 0;heavy soot;burns 0;");
+            Check.flueOf(x, 5, 0, 69, 0);
             for (int b = 0; b < 5; b++) {
                 x.lay(b, 90 + b);
             }
@@ -196,8 +176,8 @@ public final class LateEdgesTest {
     /** It burns by the fire that is told, not by one less. */
     private static void promise32First() {
         for (int fire = 1; fire <= 40; fire++) {
-            UpTheFlue x = withText("adds 1;heavy 0;burns (soot = " + fire + ") * 100;");
-            flueOf(x, 2, 19, 0);
+            UpTheFlue x = Check.under("adds 1;heavy 0;burns (soot = " + fire + ") * 100;");
+            Check.flueOf(x, 2, 0, 19, 0);
             for (int seed : new int[] {0, 99999}) {
                 due("by " + fire, x.drawn(seed, 1, 40, 0), fire);
                 due("of so many", x.drawn(seed, 1, fire, 0), fire);
@@ -213,8 +193,8 @@ public final class LateEdgesTest {
         int[] lots = {71, 42, 13, 84, 55, 26, 97, 68, 39, 10, 81, 52, 23, 94, 65, 36, 7, 78, 49, 20};
         int[][] terms = {{0, 1}, {1, 20}, {1, 10}, {3, 20}, {1, 5}, {1, 4}, {3, 10}, {7, 20}, {2, 5}, {9, 20}, {1, 2},
             {11, 20}, {3, 5}, {13, 20}, {7, 10}, {3, 4}, {4, 5}, {17, 20}, {9, 10}, {19, 20}, {1, 1}};
-        UpTheFlue x = withText("adds 0;heavy 0;burns soot;");
-        flueOf(x, 1, 19, 0);
+        UpTheFlue x = Check.under("adds 0;heavy 0;burns soot;");
+        Check.flueOf(x, 1, 0, 19, 0);
         java.util.Arrays.sort(lots);
         for (int nothing = 0; nothing <= 20; nothing++) {
             // One above the lot that must be below it.
@@ -303,8 +283,8 @@ public final class LateEdgesTest {
                 due("not past it", x.copy(3, 0, 3, 0, n + 1), -12);
             }
         }
-        UpTheFlue x = withText("adds 0;heavy 0;burns 0;");
-        flueOf(x, 10, 69, 0);
+        UpTheFlue x = Check.under("adds 0;heavy 0;burns 0;");
+        Check.flueOf(x, 10, 0, 69, 0);
         for (int sort = 0; sort < 3; sort++) {
             x.sheet(0, sort, 40);
             for (int i = 0; i < 40; i++) {
@@ -318,9 +298,9 @@ public final class LateEdgesTest {
 
     /** One rod of heavy what is laid, then through: what a cell holds, if it is -1 .. 99. */
     private static int held(int sort, int v) {
-        UpTheFlue x = withText("adds 0;heavy soot;burns 0;");
-        flueOf(x, 1, 10, 0);
-        tell(x, 0, sort, 0, v);
+        UpTheFlue x = Check.under("adds 0;heavy soot;burns 0;");
+        Check.flueOf(x, 1, 0, 10, 0);
+        Check.tell(x, 0, sort, 0, v);
         if (x.judge(0, 0) == -1) {
             return -1;
         }
@@ -380,10 +360,10 @@ public final class LateEdgesTest {
     }
 
     private static void copied(int i, int other, int j, int n) {
-        UpTheFlue x = withText("adds 0;heavy soot;burns 0;");
-        flueOf(x, 10, 10, 0);
-        tell(x, 0, 1, 20, 21, 22, 23);
-        tell(x, 1, 1, 30, 31, 32);
+        UpTheFlue x = Check.under("adds 0;heavy soot;burns 0;");
+        Check.flueOf(x, 10, 0, 10, 0);
+        Check.tell(x, 0, 1, 20, 21, 22, 23);
+        Check.tell(x, 1, 1, 30, 31, 32);
         int[] from = {20, 21, 22, 23};
         int[] to = other == 0 ? from : new int[] {30, 31, 32};
         boolean inside = i >= 0 && j >= 0 && n >= 0 && i + n <= 4 && j + n <= to.length;
@@ -397,8 +377,8 @@ public final class LateEdgesTest {
     }
 
     private static void promise38Forty() {
-        UpTheFlue x = withText("adds 0;heavy soot;burns 0;");
-        flueOf(x, 10, 49, 0);
+        UpTheFlue x = Check.under("adds 0;heavy soot;burns 0;");
+        Check.flueOf(x, 10, 0, 49, 0);
         for (int b = 0; b < 10; b++) {
             x.lay(b, 3 * b);
         }
@@ -449,7 +429,7 @@ public final class LateEdgesTest {
             {-1, 0, 70, 0}, {-1, 0, 11, -1}, {-1, 0, 11, 50}, {Integer.MAX_VALUE, Integer.MIN_VALUE, 0, 0}};
         for (int[] each : bad) {
             UpTheFlue x = new UpTheFlue();
-            tell(x, 2, 2, -1, 0, 11, 0, each[0], each[1], each[2], each[3], 0, 5, 69, 49);
+            Check.tell(x, 2, 2, -1, 0, 11, 0, each[0], each[1], each[2], each[3], 0, 5, 69, 49);
             due("two of three came", x.bitsBy(2, 2, 0, 3), 2);
             due("bits", x.count(0), 2);
             due("the third is bit 1", x.told(1, 0), 5);
@@ -458,8 +438,8 @@ public final class LateEdgesTest {
         }
         for (int stand = 0; stand <= 10; stand++) {
             UpTheFlue x = new UpTheFlue();
-            flueOf(x, stand, 19, 0);
-            tell(x, 1, 1, -1, 0, 11, 0, -1, 0, 22, 0, -1, 0, 33, 0);
+            Check.flueOf(x, stand, 0, 19, 0);
+            Check.tell(x, 1, 1, -1, 0, 11, 0, -1, 0, 22, 0, -1, 0, 33, 0);
             due("by " + stand + ": room for", x.bitsBy(1, 1, 0, 3), Math.min(3, 10 - stand));
             due("ten at most", x.count(0), Math.min(10, stand + 3));
         }
@@ -467,12 +447,12 @@ public final class LateEdgesTest {
 
     private static void promise39WhatStoodAhead() {
         UpTheFlue x = new UpTheFlue();
-        tell(x, 0, 2, -1, 0, 11, 0, 5, 0, 11, 0, 0, 0, 22, 7, -1, 0, 11);
+        Check.tell(x, 0, 2, -1, 0, 11, 0, 5, 0, 11, 0, 0, 0, 22, 7, -1, 0, 11);
         due("three and a half", x.bitsBy(0, 2, 0, 4), -12);
         due("two of the three came", x.count(0), 2);
         due("the third", x.told(1, 5), 7);
         x = new UpTheFlue();
-        flueOf(x, 9, 19, 0);
+        Check.flueOf(x, 9, 0, 19, 0);
         due("the sheet", x.sheet(0, 2, 39), 1);
         for (int i = 0; i < 39; i++) {
             x.cell(0, i, i % 4 == 2 ? 11 : 0);

@@ -138,6 +138,7 @@ public final class LawTest {
     private static void promise4Faults() {
         String[] marked = {
             "^", "   ^", "\n^", "^add", "^addss 1;", "^heavy 1;", "^1", "^;", "adds^", "adds ^", "adds 1^", "adds 1 ^",
+            "^ad ds 1;", "adds ^so ot;", "adds 1 ^o r 2;",
             "adds 1;^", "adds 1 ; ^adds 1;", "adds 1 ; ^burns 1;", "adds 1;heavy 2;^", "adds 1;heavy 2;burns 3^",
             "adds 1;heavy 2;burns 3;^;", "adds 1;heavy 2;burns 3; ^adds", "adds 1;heavy 2;burns 3;^A",
             "adds ^;", "adds ^)", "adds ^+1;", "adds ^*1;", "adds ^<1;", "adds ^or 1;", "adds ^and 1;", "adds ^adds;", "adds ^Soot;",

@@ -22,16 +22,9 @@ public final class LotsTest {
         CHECK.due(call, got, want);
     }
 
-    private static UpTheFlue withText(String text) {
-        UpTheFlue x = new UpTheFlue();
-        due("text " + text, Check.text(x, text), 1);
-        x.force(1);
-        return x;
-    }
-
     private static void promise32() {
         // Of seed 0: 48271, 182605794, 1291394886: modulo 100 71, 94, 86; of seed 1: 96542, 365211588: 42, 88.
-        UpTheFlue x = withText("adds 0;heavy 0;burns 71;");
+        UpTheFlue x = Check.under("adds 0;heavy 0;burns 71;");
         x.bit(-1, 0, 19, 0);
         Check.text(x, "adds 0;heavy 0;burns 72;");
         Check.text(x, "adds 0;heavy 0;burns 42;");
@@ -56,7 +49,7 @@ public final class LotsTest {
 
     /** Each bit of the flue has a lot, from the fireplace up, behind soot has grown. */
     private static void promise32Flue() {
-        UpTheFlue x = withText("adds 10;heavy 0;burns soot;");
+        UpTheFlue x = Check.under("adds 10;heavy 0;burns soot;");
         x.bit(-1, 0, 19, 0);
         x.bit(0, 0, 19, 0);
         int[] lots = lots(0, 80);
@@ -88,7 +81,7 @@ public final class LotsTest {
 
     /** The last fire of 40 in a flue of ten: the lots 391 to 400. */
     private static void promise32Long() {
-        UpTheFlue x = withText("adds 1;heavy 0;burns (soot = 40) * (more = 9) * 100;");
+        UpTheFlue x = Check.under("adds 1;heavy 0;burns (soot = 40) * (more = 9) * 100;");
         for (int b = 0; b < 10; b++) {
             x.bit(b - 1, 0, 19, b == 0 ? 9 : 0);
         }
@@ -98,7 +91,7 @@ public final class LotsTest {
         due("all by 39", x.odds(5, 9, 39, 0, 0), 1);
         for (int seed = 0; seed < 200; seed++) {
             int lot = lots(seed, 400)[399];
-            x = withText("adds 1;heavy 0;burns (soot = 40) * (more = 9) * " + lot + ";");
+            x = Check.under("adds 1;heavy 0;burns (soot = 40) * (more = 9) * " + lot + ";");
             for (int b = 0; b < 10; b += 1) {
                 x.bit(b - 1, 0, 19, b == 0 ? 9 : 0);
             }
@@ -119,7 +112,7 @@ public final class LotsTest {
     }
 
     private static void promise32Edges() {
-        UpTheFlue x = withText("adds 0;heavy 0;burns 100;");
+        UpTheFlue x = Check.under("adds 0;heavy 0;burns 100;");
         x.bit(-1, 0, 19, 0);
         due("sure", x.drawn(0, 0, 40, 0), 1);
         due("no fire", x.drawn(0, 0, 0, 0), -1);
@@ -136,14 +129,14 @@ public final class LotsTest {
         for (int f : new int[] {-1, 0, 2, Integer.MIN_VALUE, Integer.MAX_VALUE}) {
             due("no fireplace " + f, x.drawn(-1, f, 41, 100), -5);
         }
-        x = withText("adds 0;heavy 0;burns 0;");
+        x = Check.under("adds 0;heavy 0;burns 0;");
         x.bit(-1, 0, 19, 0);
         due("never", x.drawn(0, 0, 40, 99), -1);
     }
 
     private static void promise33() {
         for (int seed : new int[] {0, 5, 99980, 99990, 99999}) {
-            UpTheFlue x = withText("adds 0;heavy 0;burns heat * 10 + wet;");
+            UpTheFlue x = Check.under("adds 0;heavy 0;burns heat * 10 + wet;");
             x.bit(-1, 0, 19, 0);
             for (int burns = 0; burns <= 99; burns++) {
                 int nothing = 0;
@@ -156,7 +149,7 @@ public final class LotsTest {
                 due("below, seed " + seed + " burns " + burns, x.odds(seed, 0, 3, burns, 1), 20 / common);
             }
         }
-        UpTheFlue x = withText("adds 0;heavy 0;burns heat * 10 + wet;");
+        UpTheFlue x = Check.under("adds 0;heavy 0;burns heat * 10 + wet;");
         x.bit(-1, 0, 19, 0);
         due("always: 1", x.odds(3, 0, 40, 0, 0), 1);
         due("of 1", x.odds(3, 0, 40, 0, 1), 1);

@@ -29,30 +29,23 @@ public final class ToldRodsTest {
         return x;
     }
 
-    private static void tell(UpTheFlue x, int s, int sort, int... numbers) {
-        x.sheet(s, sort, numbers.length);
-        for (int i = 0; i < numbers.length; i++) {
-            x.cell(s, i, numbers[i]);
-        }
-    }
-
     private static void promise27() {
         UpTheFlue x = house();
-        tell(x, 0, 2, 10, 10, 20, -1, -1);
+        Check.tell(x, 0, 2, 10, 10, 20, -1, -1);
         due("as it is", x.judge(0, 1), -1);
         due("otherwise up 2: rod 3", x.judge(0, 2), 3);
-        tell(x, 0, 0, 10, 10, 20, -1, -1);
+        Check.tell(x, 0, 0, 10, 10, 20, -1, -1);
         due("as bytes: -1 is -1", x.judge(0, 1), -1);
-        tell(x, 1, 1, 10, 10, 10, 20);
+        Check.tell(x, 1, 1, 10, 10, 10, 20);
         due("as shorts", x.judge(1, 2), -1);
         due("up 1", x.judge(1, 1), 3);
-        tell(x, 1, 2, 10, 10, 20, 0);
+        Check.tell(x, 1, 2, 10, 10, 20, 0);
         due("0 is not through", x.judge(1, 1), 4);
-        tell(x, 1, 2, 11);
+        Check.tell(x, 1, 2, 11);
         due("the first", x.judge(1, 1), 1);
-        tell(x, 1, 2, 10);
+        Check.tell(x, 1, 2, 10);
         due("what isn't told does not matter", x.judge(1, 1), -1);
-        tell(x, 1, 2);
+        Check.tell(x, 1, 2);
         due("nothing told", x.judge(1, 1), -1);
         for (int s : NO_SHEET) {
             due("no sheet " + s, x.judge(s, -1), -2);
@@ -63,26 +56,26 @@ public final class ToldRodsTest {
         }
         Check.text(x, "adds 0;heavy heat + wet;burns 0;");
         x.force(1);
-        tell(x, 1, 2, 0, 0, 0, -1);
+        Check.tell(x, 1, 2, 0, 0, 0, -1);
         due("heat and wet are 0", x.judge(1, 1), -1);
     }
 
     private static void promise28() {
         UpTheFlue x = house();
-        tell(x, 0, 2, 10, 10);
+        Check.tell(x, 0, 2, 10, 10);
         due("both", x.whose(0), 6);
-        tell(x, 0, 2, 10, 10, 20);
+        Check.tell(x, 0, 2, 10, 10, 20);
         due("1", x.whose(0), 2);
-        tell(x, 0, 2, 10, 10, 10);
+        Check.tell(x, 0, 2, 10, 10, 10);
         due("2", x.whose(0), 4);
-        tell(x, 0, 2, 20);
+        Check.tell(x, 0, 2, 20);
         due("no one's; 0 is no fireplace", x.whose(0), 0);
-        tell(x, 0, 2);
+        Check.tell(x, 0, 2);
         due("nothing told: all", x.whose(0), 6);
         due("no bits", whoseOfNone(), 0);
         UpTheFlue one = new UpTheFlue();
         one.bit(-1, 0, 10, 0);
-        tell(one, 3, 0, 0, -1);
+        Check.tell(one, 3, 0, 0, -1);
         due("0 alone", one.whose(3), 1);
         for (int s : NO_SHEET) {
             due("no sheet " + s, x.whose(s), -2);
@@ -102,15 +95,15 @@ public final class ToldRodsTest {
         Check.text(x, "adds 0;heavy bend * 5;burns 0;");
         Check.text(x, "adds 0;heavy 10 + wet;burns 0;");
         x.force(1);
-        tell(x, 0, 2, 10, 10);
+        Check.tell(x, 0, 2, 10, 10);
         due("all four", x.laws(0, 1), 15);
-        tell(x, 0, 2, 10, 10, 20, -1);
+        Check.tell(x, 0, 2, 10, 10, 20, -1);
         due("0 and 2", x.laws(0, 1), 5);
-        tell(x, 0, 2, 10, 10, 10, -1);
+        Check.tell(x, 0, 2, 10, 10, 10, -1);
         due("1 and 3", x.laws(0, 1), 10);
-        tell(x, 0, 2, 11);
+        Check.tell(x, 0, 2, 11);
         due("none", x.laws(0, 1), 0);
-        tell(x, 0, 2);
+        Check.tell(x, 0, 2);
         due("nothing told: all", x.laws(0, 1), 15);
         due("the law stays", x.count(4), 1);
         due("and says, where text 0 says 20", x.rod(1, 3, 1), 10);
@@ -133,41 +126,41 @@ public final class ToldRodsTest {
         x.lay(1, 20);
         x.lay(2, 20);
         // Each is heavy 15 as it is; were it a BLOCKED with MORE n, 15 and n, 20 at most.
-        tell(x, 0, 2, 15, 18, 15, -1);
+        Check.tell(x, 0, 2, 15, 18, 15, -1);
         due("1 with 3", x.blocked(0, 2, 0), 13);
         due("that alone", x.blocked(0, 2, 1), 1);
-        tell(x, 0, 2, 15, 20);
+        Check.tell(x, 0, 2, 15, 20);
         due("1 with 5 or more", x.blocked(0, 2, 0), 15);
         due("5 .. 9", x.blocked(0, 2, 1), 5);
-        tell(x, 0, 2, 16);
+        Check.tell(x, 0, 2, 16);
         due("2 with 1", x.blocked(0, 2, 0), 21);
-        tell(x, 0, 2, 15);
+        Check.tell(x, 0, 2, 15);
         due("from the fireplace up: 1 ahead of 0", x.blocked(0, 2, 0), 11);
         due("1 and 0 by each number", x.blocked(0, 2, 1), 18);
-        tell(x, 0, 2, 15, 18, 18);
+        Check.tell(x, 0, 2, 15, 18, 18);
         due("never two", x.blocked(0, 2, 0), -1);
         due("none", x.blocked(0, 2, 1), 0);
-        tell(x, 0, 2);
+        Check.tell(x, 0, 2);
         due("nothing told", x.blocked(0, 2, 0), 21);
         due("27", x.blocked(0, 2, 1), 27);
         due("kind stays", x.told(2, 0), 3);
         due("more stays", x.told(2, 5), 4);
         Check.text(x, "adds 0;heavy more * 10 + wide;burns 0;");
         x.force(1);
-        tell(x, 0, 2, 45, 0);
+        Check.tell(x, 0, 2, 45, 0);
         due("it says by MORE and wide", x.blocked(0, 2, 1), 0);
-        tell(x, 0, 2, 72, 5);
+        Check.tell(x, 0, 2, 72, 5);
         due("with a MORE less wide than 0 is 0", x.blocked(0, 2, 1), 0);
-        tell(x, 0, 2, 70, 5, 5, -1);
+        Check.tell(x, 0, 2, 70, 5, 5, -1);
         due("with 7", x.blocked(0, 2, 0), 27);
-        tell(x, 0, 2, 45, 5, 32, -1);
+        Check.tell(x, 0, 2, 45, 5, 32, -1);
         due("0 with 3", x.blocked(0, 2, 0), 3);
     }
 
     private static void promise30Edges() {
         UpTheFlue x = house();
         x.mend(1, 2, 6);
-        tell(x, 0, 2, 10, 10, 20, -1);
+        Check.tell(x, 0, 2, 10, 10, 20, -1);
         due("one that is so already: 0 wide all the time", x.blocked(0, 1, 1), 18);
         due("the first", x.blocked(0, 1, 0), 11);
         for (int s : NO_SHEET) {
