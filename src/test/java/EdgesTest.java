@@ -359,6 +359,7 @@ public final class EdgesTest {
         x.bit(-1, 0, 19, 0);
         due("rod", x.rod(0, 1, 1), 40);
         due("push", x.push(0, 40, 0), -1);
+        due("push: heat and wet are not below 0, either", x.push(0, 39, 0), 0);
         due("needs", x.needs(0), 40);
         due("often", x.often(0, 99, 40, 5), 1);
         x.bit(-1, 0, 19, 0);
